@@ -85,6 +85,7 @@ public final class Mutagenry {
         checkFunction(function);
         int parameters = at(words.parameters, function);
         checkRow(parameters, function);
+        table.fill();
         countHistory();
         install(function, parameters);
         changes++;
@@ -181,6 +182,7 @@ public final class Mutagenry {
     public char told(int mutant, int test) throws IndexOutOfBoundsException {
         checkMutant(mutant);
         checkTest(test);
+        table.fill();
         if ((table.killsOf(mutant) >> test & 1) != 0) {
             return 'k';
         }
@@ -199,6 +201,7 @@ public final class Mutagenry {
 
     public int kills(int mutant) throws IndexOutOfBoundsException {
         checkMutant(mutant);
+        table.fill();
         return table.killsOf(mutant);
     }
 
@@ -217,14 +220,17 @@ public final class Mutagenry {
     public boolean isSubsumed(int mutant, int by) throws IndexOutOfBoundsException {
         checkMutant(mutant);
         checkMutant(by);
+        table.fill();
         return isSome(table.killsOf(by), table.killsOf(mutant));
     }
 
     public int minimals() {
+        table.fill();
         return sets.gatherLeast();
     }
 
     public int minimalAt(int index) throws NoSuchElementException {
+        table.fill();
         if (index < 0 || index >= sets.gatherLeast()) {
             throw new NoSuchElementException("no such mutant");
         }
@@ -235,6 +241,7 @@ public final class Mutagenry {
         if (tests < 0 || tests >= 1 << table.tests) {
             throw new IllegalArgumentException("no such tests");
         }
+        table.fill();
         int all = isMinimal ? sets.gatherLeast() : likes.countUnlike();
         if (all == 0) {
             throw new ArithmeticException("divided by 0");
@@ -247,13 +254,16 @@ public final class Mutagenry {
         if (index < 0 || index >= table.tests) {
             throw new NoSuchElementException("no such test");
         }
+        table.fill();
         return sets.ordered(index);
     }
 
     public int leastSet(boolean isKills) {
         if (isKills) {
+            table.fill();
             sets.gatherLeast();
         } else {
+            table.settle();
             sets.gatherPlaces();
         }
         return sets.fewest();
@@ -276,17 +286,20 @@ public final class Mutagenry {
 
     public int pairKills(int first, int second) throws IndexOutOfBoundsException, UnsupportedOperationException {
         checkPair(first, second);
+        table.fill();
         return table.killsOfPair(first, second);
     }
 
     public int masked(int first, int second) throws IndexOutOfBoundsException, UnsupportedOperationException {
         checkPair(first, second);
+        table.fill();
         int both = table.killsOfPair(first, second);
         return (table.killsOf(first) | table.killsOf(second)) & ~both;
     }
 
     public boolean isHarder(int first, int second) throws IndexOutOfBoundsException, UnsupportedOperationException {
         checkPair(first, second);
+        table.fill();
         int both = table.killsOfPair(first, second);
         int missing = both & ~(table.killsOf(first) & table.killsOf(second));
         return both != 0 && missing == 0;
@@ -383,6 +396,7 @@ public final class Mutagenry {
 
     public int sample(int seed, int many) throws IllegalArgumentException {
         checkSample(many);
+        table.fill();
         return sets.countDrawn(seed, many);
     }
 
@@ -391,6 +405,7 @@ public final class Mutagenry {
         if (mutants.size() > MOST_BOUNDED) {
             throw new UnsupportedOperationException("there are more than 50 mutants");
         }
+        table.fill();
         return leastKilled(mutants.size(), many, sets.countDrawn(seed, many));
     }
 
@@ -411,6 +426,7 @@ public final class Mutagenry {
         if (many == 0) {
             throw new ArithmeticException("there are no mutants");
         }
+        table.fill();
         int sum = 0;
         for (int mutant = 0; mutant < many; mutant++) {
             sum += Integer.bitCount(table.killsOf(mutant));
@@ -419,6 +435,7 @@ public final class Mutagenry {
     }
 
     public boolean isSound() {
+        table.fill();
         int many = mutants.size();
         for (int mutant = 0; mutant < many; mutant++) {
             if (!isTrueToRuns(mutant) || table.killsOf(mutant) != 0 && likes.isOneForm(mutant)) {
@@ -799,11 +816,11 @@ public final class Mutagenry {
         }
 
         private int wordAt(int spot) {
-            return at(words, spot);
+            return spot >= 0 && spot < words.length ? words[spot] : 0;
         }
 
         private int endAt(int spot) {
-            return at(ends, spot);
+            return spot >= 0 && spot < ends.length ? ends[spot] : 0;
         }
 
         private boolean isWithin(int inner, int outer) {
@@ -820,9 +837,10 @@ public final class Mutagenry {
             int found = (1 << at(parameters, function)) - 1;
             for (int spot = from; spot < from + at(lengths, function); spot++) {
                 int word = wordAt(spot);
-                if (isExpression(spot)) {
-                    found |= word <= 7 ? 1 << word : 0;
-                } else if (at(kinds, spot) == STATEMENT && (word == 40 || word == 49)) {
+                int kind = at(kinds, spot);
+                if (kind == EXPRESSION && word <= 7) {
+                    found |= 1 << word;
+                } else if (kind == STATEMENT && (word == 40 || word == 49)) {
                     found |= 1 << wordAt(word == 40 ? spot + 1 : endAt(spot + 1));
                 }
             }
@@ -1081,7 +1099,9 @@ public final class Mutagenry {
 
         private void seeWay(int spot, boolean is) {
             int[] ways = is ? so : notSo;
-            put(ways, spot, at(ways, spot) | bit);
+            if (spot >= 0 && spot < ways.length) {
+                ways[spot] |= bit;
+            }
         }
 
         private int countWays() {
@@ -1101,29 +1121,24 @@ public final class Mutagenry {
             }
         }
 
-        private void measure(int word, int first, int second, int value) {
-            int found = distanceOf(word, first - second, value);
+        /** The distance of 16 not so, and of 17 so, is that of what they give, as of other words. */
+        private void measure(int word, int difference, int value) {
+            int found = value < 0 ? -value : value;
+            if (word == 14) {
+                found = isSo ? difference + 1 : -difference;
+            } else if (word == 15) {
+                found = isSo ? difference : 1 - difference;
+            } else if (word == (isSo ? 16 : 17)) {
+                found = difference < 0 ? -difference : difference;
+            } else if (isSo) {
+                found = value == 0 ? 1 : 0;
+            }
             if (found < 0) {
                 found = 0;
             }
             if (found < distance) {
                 distance = found;
             }
-        }
-
-        private int distanceOf(int word, int difference, int value) {
-            int amount = difference < 0 ? -difference : difference;
-            switch (word) {
-                case 14: return isSo ? difference + 1 : -difference;
-                case 15: return isSo ? difference : 1 - difference;
-                case 16: return isSo ? amount : value;
-                case 17: return isSo ? 1 - value : amount;
-                default: break;
-            }
-            if (isSo) {
-                return value == 0 ? 1 : 0;
-            }
-            return value < 0 ? -value : value;
         }
     }
 
@@ -1203,8 +1218,8 @@ public final class Mutagenry {
         }
 
         private int run(int function, int arguments, int itsLimit, boolean isFresh) {
-            if (isFresh) {
-                clearHidden();
+            for (int i = 0; i < 4 && isFresh; i++) {
+                put(hidden, i, 0);
             }
             top = 0;
             height = 0;
@@ -1221,8 +1236,10 @@ public final class Mutagenry {
             for (int turn = 0; turn < MOST_TURNS && state != OVER; turn++) {
                 if (state == GOING) {
                     goOn();
+                } else if (state == THROWING) {
+                    passThrown();
                 } else {
-                    unwind();
+                    passOn();
                 }
             }
             return given;
@@ -1247,9 +1264,22 @@ public final class Mutagenry {
             }
         }
 
-        /** Takes one entry away, for what is thrown, returned, or for the limit that is passed. */
-        private void unwind() {
-            if (top == 0 || state == ENDED && !aside.isOn) {
+        /** Takes one entry away for what is thrown. */
+        private void passThrown() {
+            int entry = pop();
+            int spot = entry >> 4 & 511;
+            switch (entry & 15) {
+                case CATCH: catchThrown(spot); break;
+                case CALL: leaveThrown(); break;
+                case COMPARE: compare(entry >> 13, 16 + given + 8); break;
+                case ASIDE: endAside(spot, 16 + given + 8); break;
+                default: break;
+            }
+        }
+
+        /** Takes one entry away for what is returned, or for the limit that is passed. */
+        private void passOn() {
+            if (state == ENDED && !aside.isOn) {
                 given = PASSED;
                 state = OVER;
                 return;
@@ -1257,31 +1287,10 @@ public final class Mutagenry {
             int entry = pop();
             int spot = entry >> 4 & 511;
             int phase = entry & 15;
-            if (state == RETURNING) {
-                if (phase == CALL) {
-                    leave(spot, given);
-                }
-            } else if (state == THROWING) {
-                passThrown(phase, spot, entry >> 13);
-            } else if (phase == ASIDE) {
+            if (state == RETURNING && phase == CALL) {
+                leave(spot, given);
+            } else if (state == ENDED && phase == ASIDE) {
                 endAside(spot, NOTHING);
-            }
-        }
-
-        private void passThrown(int phase, int spot, int result) {
-            switch (phase) {
-                case CATCH: catchThrown(spot); break;
-                case CALL:
-                    height = at(bases, depth);
-                    depth--;
-                    if (depth < 0) {
-                        given += THROWN;
-                        state = OVER;
-                    }
-                    break;
-                case COMPARE: compare(result, 16 + given + 8); break;
-                case ASIDE: endAside(spot, 16 + given + 8); break;
-                default: break;
             }
         }
 
@@ -1433,35 +1442,29 @@ public final class Mutagenry {
                 }
                 return;
             }
-            if (word == 22) {
-                giveCell(spot, popValue());
-                return;
-            }
             int second = word < 20 ? popValue() : 0;
             int first = popValue();
-            if (word == 13 && second == 0) {
+            if (word == 22) {
+                if (first < 0 || first > 3) {
+                    raise(2);
+                } else {
+                    give(spot, at(cells, 4 * depth + first));
+                }
+            } else if (word == 13 && second == 0) {
                 raise(1);
-                return;
-            }
-            int value = result(word, first, second);
-            pushValue(value);
-            if (spot == sight.sought) {
-                sight.measure(word, first, second, value);
-            }
-        }
-
-        private void giveCell(int spot, int cell) {
-            if (cell < 0 || cell > 3) {
-                raise(2);
             } else {
-                give(spot, at(cells, 4 * depth + cell));
+                int value = result(word, first, second);
+                pushValue(value);
+                if (spot == sight.sought) {
+                    sight.measure(word, first - second, value);
+                }
             }
         }
 
         private void give(int spot, int value) {
             pushValue(value);
             if (spot == sight.sought) {
-                sight.measure(0, 0, 0, value);
+                sight.measure(0, 0, value);
             }
         }
 
@@ -1490,6 +1493,15 @@ public final class Mutagenry {
             } else {
                 state = GOING;
                 give(spot, value);
+            }
+        }
+
+        private void leaveThrown() {
+            height = at(bases, depth);
+            depth--;
+            if (depth < 0) {
+                given += THROWN;
+                state = OVER;
             }
         }
 
@@ -1532,36 +1544,41 @@ public final class Mutagenry {
             }
         }
 
-        private void clearHidden() {
-            for (int i = 0; i < 4; i++) {
-                put(hidden, i, 0);
-            }
-        }
-
         private void copyHidden(int[] from, int[] to) {
-            for (int i = 0; i < 4; i++) {
-                put(to, i, at(from, i));
+            for (int i = 0; i < from.length && i < to.length; i++) {
+                to[i] = from[i];
             }
         }
 
         private void push(int phase, int spot) {
-            put(control, top, spot << 4 | phase);
-            top++;
+            if (top >= 0 && top < control.length) {
+                control[top] = spot << 4 | phase;
+                top++;
+            }
         }
 
         private int pop() {
+            if (top <= 0 || top > control.length) {
+                state = OVER;
+                return CATCH;
+            }
             top--;
-            return at(control, top);
+            return control[top];
         }
 
         private void pushValue(int value) {
-            put(values, height, value);
-            height++;
+            if (height >= 0 && height < values.length) {
+                values[height] = value;
+                height++;
+            }
         }
 
         private int popValue() {
+            if (height <= 0 || height > values.length) {
+                return 0;
+            }
             height--;
-            return at(values, height);
+            return values[height];
         }
     }
 
@@ -1578,9 +1595,9 @@ public final class Mutagenry {
         private final int[] outcomes = new int[MOST_TESTS];
         private final int[] limits = new int[MOST_TESTS];
         private final int[] kills = new int[MOST_MUTANTS];
-        private final int[] judged = new int[MOST_MUTANTS];
         private int tests;
         private int known;
+        private int filled;
         private int limit = 200;
 
         private Table(Words itsWords, Mutants itsMutants) {
@@ -1603,9 +1620,9 @@ public final class Mutagenry {
         }
 
         private void forgetKills() {
+            filled = 0;
             for (int i = 0; i < MOST_MUTANTS; i++) {
                 put(kills, i, 0);
-                put(judged, i, 0);
             }
         }
 
@@ -1619,12 +1636,27 @@ public final class Mutagenry {
             for (int test = 0; test < tests; test++) {
                 if ((known >> test & 1) == 0) {
                     known |= 1 << test;
+                    spoil.clear();
                     sight.bit = 1 << test;
-                    put(outcomes, test, runPlain(at(functions, test), at(arguments, test)));
+                    put(outcomes, test, machine.run(at(functions, test), at(arguments, test), limit, true));
                     sight.stop();
                     put(limits, test, limitBy(machine.steps));
                 }
             }
+        }
+
+        /** Runs each mutant for each test that it was not run for yet, and that comes to its place. */
+        private void fill() {
+            settle();
+            int many = mutants.size();
+            for (int test = filled; test < tests; test++) {
+                for (int mutant = 0; mutant < many; mutant++) {
+                    if (isReached(mutant, test) && runMutant(mutant, test) != at(outcomes, test)) {
+                        put(kills, mutant, at(kills, mutant) | 1 << test);
+                    }
+                }
+            }
+            filled = tests;
         }
 
         private int limitBy(int steps) {
@@ -1645,22 +1677,10 @@ public final class Mutagenry {
         }
 
         private int killsOf(int mutant) {
-            settle();
-            int found = at(kills, mutant);
-            int before = at(judged, mutant);
-            for (int test = 0; test < tests; test++) {
-                boolean isNew = (before >> test & 1) == 0;
-                if (isNew && isReached(mutant, test) && runMutant(mutant, test) != at(outcomes, test)) {
-                    found |= 1 << test;
-                }
-            }
-            put(kills, mutant, found);
-            put(judged, mutant, (1 << tests) - 1);
-            return found;
+            return at(kills, mutant);
         }
 
         private int killsOfPair(int first, int second) {
-            settle();
             int reached = coverOf(mutants.spotOf(first)) | coverOf(mutants.spotOf(second));
             int found = 0;
             for (int test = 0; test < tests; test++) {
@@ -1692,21 +1712,24 @@ public final class Mutagenry {
                 return true;
             }
             aside.follow(mutants.spotOf(mutant));
-            runMutant(mutant, test);
+            spoil.take(mutants, mutant);
+            machine.run(at(functions, test), at(arguments, test), at(limits, test), true);
             boolean isSo = aside.isInfected;
             aside.follow(Aside.NONE);
             return isSo;
         }
 
         private int runBehind(int test, int before) {
-            runPlain(at(functions, before), at(arguments, before));
+            spoil.clear();
+            machine.run(at(functions, before), at(arguments, before), limit, true);
             return machine.run(at(functions, test), at(arguments, test), limit, false);
         }
 
         /** Whether a test of these arguments would kill a mutant. */
         private boolean isKilledBy(int mutant, int function, int itsArguments) {
+            spoil.clear();
             sight.watch(mutants.spotOf(mutant));
-            int outcome = runPlain(function, itsArguments);
+            int outcome = machine.run(function, itsArguments, limit, true);
             sight.stop();
             if (!sight.isCome) {
                 return false;
@@ -1718,6 +1741,10 @@ public final class Mutagenry {
 
     /** Likes by one normal form and by all inputs. */
     private static final class Likes {
+        private static final int UNKNOWN = 0;
+        private static final int LIKE = 1;
+        private static final int UNLIKE = 2;
+
         private final Words words;
         private final Mutants mutants;
         private final Table table;
@@ -1738,7 +1765,7 @@ public final class Mutagenry {
 
         private void forget() {
             for (int i = 0; i < MOST_MUTANTS; i++) {
-                put(byAll, i, 0);
+                put(byAll, i, UNKNOWN);
             }
         }
 
@@ -1765,22 +1792,18 @@ public final class Mutagenry {
             if (!words.isPlain()) {
                 return false;
             }
-            if (at(byAll, mutant) == 0) {
-                put(byAll, mutant, isKilledByAny(mutant) ? 2 : 1);
-            }
-            return at(byAll, mutant) == 1;
-        }
-
-        private boolean isKilledByAny(int mutant) {
-            for (int function = 0; function < words.functions; function++) {
+            boolean isNew = at(byAll, mutant) == UNKNOWN;
+            boolean isKilled = false;
+            for (int function = 0; function < words.functions && isNew; function++) {
                 int inputs = words.inputs(function);
-                for (int i = 0; i < inputs; i++) {
-                    if (table.isKilledBy(mutant, function, words.inputAt(function, i))) {
-                        return true;
-                    }
+                for (int i = 0; i < inputs && !isKilled; i++) {
+                    isKilled = table.isKilledBy(mutant, function, words.inputAt(function, i));
                 }
             }
-            return false;
+            if (isNew) {
+                put(byAll, mutant, isKilled ? UNLIKE : LIKE);
+            }
+            return at(byAll, mutant) == LIKE;
         }
 
         private boolean isOneForm(int mutant) {
@@ -1925,7 +1948,6 @@ public final class Mutagenry {
         }
 
         private void gatherPlaces() {
-            table.settle();
             many = 0;
             for (int place = 0; place < words.places; place++) {
                 gather(table.coverOf(at(words.spots, place)), place);
@@ -2028,9 +2050,8 @@ public final class Mutagenry {
         }
 
         private int countNew(int test, int ahead) {
-            int all = mutants.size();
             int found = 0;
-            for (int mutant = 0; mutant < all; mutant++) {
+            for (int mutant = 0; mutant < mutants.many; mutant++) {
                 int kills = table.killsOf(mutant);
                 found += (kills & ahead) == 0 ? kills >> test & 1 : 0;
             }
@@ -2077,8 +2098,9 @@ public final class Mutagenry {
         }
 
         private int distance(int function, int arguments, int spot, boolean isSo) {
+            table.spoil.clear();
             table.sight.seek(spot, isSo);
-            table.runPlain(function, arguments);
+            table.machine.run(function, arguments, table.limit, true);
             table.sight.stop();
             return table.sight.distance;
         }
@@ -2135,9 +2157,10 @@ public final class Mutagenry {
         }
 
         private int countHolding(int oracle) {
+            table.spoil.clear();
             int found = 0;
             for (int test = 0; test < table.tests; test++) {
-                found += isHolding(oracle, test) ? 1 : 0;
+                found += isOf(oracle, test) && judge(oracle, test, table.limit) ? 1 : 0;
             }
             return found;
         }
@@ -2146,7 +2169,8 @@ public final class Mutagenry {
             table.settle();
             int found = 0;
             for (int test = 0; test < table.tests; test++) {
-                if (isHolding(oracle, test)) {
+                table.spoil.clear();
+                if (isOf(oracle, test) && judge(oracle, test, table.limit)) {
                     table.spoil.take(mutants, mutant);
                     found |= judge(oracle, test, at(table.limits, test)) ? 0 : 1 << test;
                 }
@@ -2154,9 +2178,8 @@ public final class Mutagenry {
             return found;
         }
 
-        private boolean isHolding(int oracle, int test) {
-            table.spoil.clear();
-            return at(table.functions, test) == at(functions, oracle) && judge(oracle, test, table.limit);
+        private boolean isOf(int oracle, int test) {
+            return at(table.functions, test) == at(functions, oracle);
         }
 
         private boolean judge(int oracle, int test, int limit) {
