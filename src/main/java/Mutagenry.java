@@ -15,6 +15,10 @@ public final class Mutagenry {
     private static final int EXPRESSION = 2;
 
     private static final int OPERATORS = 8;
+    private static final int NUMBER = 0;
+    private static final int SUM = 1;
+    private static final int RELATION = 2;
+    private static final int LOGIC = 3;
     private static final int BARE = 4;
     private static final int VARIABLE = 5;
     private static final int NEGATED = 6;
@@ -76,7 +80,6 @@ public final class Mutagenry {
         }
         int function = words.functions;
         words.functions = function + 1;
-        mutants.letFunction(function, true);
         install(function, parameters);
         return function;
     }
@@ -572,10 +575,10 @@ public final class Mutagenry {
 
     private static char signOf(int kind) {
         switch (kind) {
-            case 0: return 'c';
-            case 1: return 'a';
-            case 2: return 'r';
-            case 3: return 'l';
+            case NUMBER: return 'c';
+            case SUM: return 'a';
+            case RELATION: return 'r';
+            case LOGIC: return 'l';
             case BARE: return 'u';
             case VARIABLE: return 'v';
             case NEGATED: return 'n';
@@ -937,10 +940,10 @@ public final class Mutagenry {
                 return;
             }
             switch (kind) {
-                case 0: listNumbers(spot, word); break;
-                case 1: listOthers(spot, kind, 10, 13); break;
-                case 2: listOthers(spot, kind, 14, 17); break;
-                case 3: listOthers(spot, kind, 18, 19); break;
+                case NUMBER: listNumbers(spot, word); break;
+                case SUM: listOthers(spot, kind, 10, 13); break;
+                case RELATION: listOthers(spot, kind, 14, 17); break;
+                case LOGIC: listOthers(spot, kind, 18, 19); break;
                 case BARE: add(spot, kind, words.wordAt(spot + 1)); break;
                 case VARIABLE: listVariables(spot); break;
                 default: add(spot, kind, word); break;
@@ -949,19 +952,19 @@ public final class Mutagenry {
 
         private int kindOfExpression(int word) {
             if (word >= 92) {
-                return 0;
+                return NUMBER;
             }
             if (word <= 7) {
                 return VARIABLE;
             }
             if (word <= 13) {
-                return 1;
+                return SUM;
             }
             if (word <= 17) {
-                return 2;
+                return RELATION;
             }
             if (word <= 19) {
-                return 3;
+                return LOGIC;
             }
             return word <= 21 ? BARE : -1;
         }
@@ -975,10 +978,10 @@ public final class Mutagenry {
 
         private void listNumbers(int spot, int word) {
             int number = word - 100;
-            add(spot, 0, 100 + round(number + 1));
-            add(spot, 0, 100 + round(number - 1));
+            add(spot, NUMBER, 100 + round(number + 1));
+            add(spot, NUMBER, 100 + round(number - 1));
             if (number != 0 && number != 1 && number != -1) {
-                add(spot, 0, 100);
+                add(spot, NUMBER, 100);
             }
         }
 
@@ -1187,7 +1190,7 @@ public final class Mutagenry {
         private static final int ENDED = 3;
         private static final int OVER = 4;
 
-        private static final int MOST_TURNS = 1000000000;
+        private static final int MOST_TURNS = 100000000;
         private static final int ASIDE_LIMIT = 100;
         private static final int NOTHING = 32;
         private static final int ROOM = 2048;
@@ -2189,12 +2192,17 @@ public final class Mutagenry {
             if (outcome == PASSED) {
                 return false;
             }
-            switch (at(kinds, oracle)) {
-                case 'p': return outcome >= 0 && outcome <= 7;
-                case 'z': return outcome <= 7;
-                case 'c': return outcome == table.machine.run(function, exchanged(arguments), limit, true);
-                default: return outcome == table.machine.run(at(peers, oracle), arguments, limit, true);
+            int kind = at(kinds, oracle);
+            if (kind == 'p') {
+                return outcome >= 0 && outcome <= 7;
             }
+            if (kind == 'z') {
+                return outcome <= 7;
+            }
+            if (kind == 'c') {
+                return outcome == table.machine.run(function, exchanged(arguments), limit, true);
+            }
+            return outcome == table.machine.run(at(peers, oracle), arguments, limit, true);
         }
 
         private int exchanged(int arguments) {

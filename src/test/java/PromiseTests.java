@@ -765,6 +765,34 @@ public final class PromiseTests {
         due("hidden ones are put back", hidden.alone(0, 0), 1);
         due("aside nothing is left", toldAll(hidden, 0), "iirrik");
         asideLimit();
+        asideSteps();
+        asideDepth();
+        Mutagenry fresh = made(1, 45, 40, 1, 12, 24, 0, 0, 51, 0, 105, 46);
+        due("hidden ones are 0 again", toldOf(fresh, "a"), "iir");
+    }
+
+    // 60 steps ahead of the place, and 61 at it: those ahead do not count aside.
+    private static void asideSteps() {
+        int[] rounds = {45, 44, 0, 45, 40, 0, 11, 0, 101, 45, 46, 45, 46, 46, 47, 100, 46};
+        Mutagenry works = made(1, rounds);
+        due("steps of 11 rounds", works.steps(0, given(-5)), 1 + 1 + 12 + 11 * 4 + 1);
+        add(works, 0, 45, 40, 0, 30, 95, 40, 0, 10, 30, 95, 100, 46);
+        works.setFunction(0, false);
+        only(works, "a");
+        works.addTest(1, 0);
+        due("aside begins at 0", toldAll(works, 0), "rrk");
+    }
+
+    // The first function sets its parameter to 0 and goes on without end, if it was not 0.
+    private static void asideDepth() {
+        Mutagenry works = made(1, 45, 42, 0, 45, 40, 0, 100, 44, 101, 45, 46, 46, 46);
+        add(works, 1, 47, 10, 30, 0, 100);
+        works.setFunction(0, false);
+        only(works, "a");
+        works.addTest(1, given(2));
+        due("a mutant that passes its limit at the place gives nothing", toldAll(works, 0), "rrr");
+        works.addTest(1, given(0));
+        due("one that does not", toldAll(works, 1), "rrk");
     }
 
     private static String toldOf(Mutagenry works, String operators) {
@@ -809,12 +837,26 @@ public final class PromiseTests {
         due("the limit of the mutant is passed", loop.alone(0, 0), 999);
         due("it ends where the program does not", loop.alone(0, 1), 0);
         limits();
+        exactLimit();
         due("s leaves out what it has in it", made(0, 45, 47, 13, 101, 100, 46).mutants() > 0, true);
         Mutagenry skipped = made(0, 45, 40, 1, 13, 101, 100, 47, 103, 46);
         only(skipped, "s");
         skipped.addTest(0, 0);
         due("thrown by the program", skipped.expected(0), 101);
         due("not by the mutant", skipped.alone(0, 0), 3);
+    }
+
+    // The program takes just the limit, so that the mutant has 60 steps.
+    private static void exactLimit() {
+        Mutagenry works = made(0, 45, 40, 0, 103, 44, 0, 40, 0, 11, 0, 101, 47, 105, 46);
+        only(works, "c");
+        works.addTest(0, 0);
+        due("steps", works.steps(0, 0), 11);
+        works.setLimit(11);
+        due("4 rounds", works.alone(0, 0), 5);
+        works.setLimit(10);
+        due("4 rounds, the limit being passed", works.alone(0, 0), 999);
+        due("2 rounds", works.alone(1, 0), 5);
     }
 
     // The program takes 9 steps on 2, so that the mutant has 56: of a list of n rounds each takes 3.
@@ -935,6 +977,7 @@ public final class PromiseTests {
         due("49 steps pass it", like(made(1, longer), 'r', 17), '-');
         due("one round more does not", like(made(1, longer), 'r', 15), 'b');
         turnedForms();
+        staleLikes();
         fails("-1", INDEX, () -> turned.isLike(-1));
         fails("behind the last", INDEX, () -> turned.isLike(turned.mutants()));
     }
@@ -951,6 +994,25 @@ public final class PromiseTests {
         due("both of x and 3", like(made(3, 47, 18, 0, 12, 101, 103), 'c', 104), '-');
         due("unused text of 24", like(made(3, 45, 40, 1, 11, 24, 1, 100, 46), 'a', 10), 'n');
         due("calls are not made simpler", like(made(3, 45, 40, 1, 11, 30, 0, 1, 11, 2, 100, 100, 46), 'a', 10), 'n');
+    }
+
+    private static void staleLikes() {
+        Mutagenry works = made(1, 45, 44, 101, 45, 46, 47, 0, 46);
+        due("the program passes the limit, as the mutant", works.isLike(works.mutants() - 1), 'b');
+        Mutagenry limit = made(0, 45, 40, 0, 107, 44, 0, 40, 0, 11, 0, 101, 47, 105, 46);
+        only(limit, "c");
+        due("7 rounds and 6", limit.isLike(1), 'b');
+        due("return of another number", limit.isLike(5), '-');
+        limit.setLimit(10);
+        due("the limit is passed by each", limit.isLike(5), 'b');
+        limit.setLimit(200);
+        due("and no more", limit.isLike(5), '-');
+        due("7 and 6 again", limit.isLike(1), 'b');
+        limit.setOperator('s', true);
+        due("now another one", limit.operatorOf(7) + " " + limit.isLike(7), "s -");
+        due("left out set", limit.operatorOf(0) + " " + limit.isLike(0), "s b");
+        change(limit, 0, 45, 40, 0, 107, 47, 0, 46);
+        due("left out set, changed", limit.operatorOf(0) + " " + limit.isLike(0), "s -");
     }
 
     private static void isSubsumed() {
@@ -1157,6 +1219,7 @@ public final class PromiseTests {
         works.addTest(0, number(3, 1, 0));
         works.addTest(0, number(2, 2, 0));
         works.addTest(0, number(0, 5, 0));
+        due("masked, asked first", works.masked(4, 5), 5);
         due("kills", works.kills(4), 5);
         due("kills of the other one", works.kills(5), 5);
         due("masked", works.masked(4, 5), 5);
@@ -1176,7 +1239,6 @@ public final class PromiseTests {
 
     private static void isHarder() {
         promise = 35;
-        // 1 is returned if both are not 0: the first and second one of the pair turn each other where one is 0
         Mutagenry works = made(2, 47, 10, 0, 1);
         works.addTest(0, number(3, 1, 0));
         due("no test kills the pair", works.isHarder(4, 5), false);
@@ -1184,6 +1246,7 @@ public final class PromiseTests {
         only(harder, "c");
         harder.addTest(0, number(1, 1, 0));
         harder.addTest(0, number(-1, -2, 0));
+        due("harder, asked first", harder.isHarder(0, 2), true);
         due("mutants", listed(harder), "4c102 4c100 7c102 7c100");
         due("kills of the first", harder.kills(0), 3);
         due("kills of the second", harder.kills(2), 1);
@@ -1223,6 +1286,10 @@ public final class PromiseTests {
         Mutagenry like = made(1, 47, 12, 0, 101);
         only(like, "a");
         fails("one that is like", NONE, () -> like.killing(2, 0));
+        Mutagenry hidden = made(1, 45, 51, 0, 10, 24, 0, 101, 47, 10, 24, 0, 12, 0, 101, 46);
+        only(hidden, "a");
+        fails("hidden ones begin with 0 in both runs", NONE, () -> hidden.killing(8, 0));
+        due("all -8", made(3, 47, 0).killing(0, 0), 0);
         Mutagenry three = made(3, 47, 18, 16, 0, 105, 18, 16, 1, 106, 16, 2, 107);
         only(three, "c");
         due("all three", three.killing(three.mutants() - 1, 0), number(5, 6, 0));
@@ -1450,6 +1517,12 @@ public final class PromiseTests {
         due("c", works.holds(2), 3);
         due("d", works.holds(3), 3);
         due("of tests of its function", works.holds(4), 0);
+        Mutagenry hidden = made(2, 45, 51, 0, 10, 24, 0, 10, 0, 1, 47, 24, 0, 46);
+        hidden.addOracle('c', 0, 0);
+        hidden.addOracle('d', 0, 0);
+        hidden.addTest(0, number(1, 2, 0));
+        due("hidden ones begin with 0 as they are exchanged", hidden.holds(0), 1);
+        due("hidden ones begin with 0 for the peer", hidden.holds(1), 1);
         works.addTest(1, number(4, 2, 0));
         due("one test", works.holds(4), 1);
         fails("-1", INDEX, () -> works.holds(-1));
