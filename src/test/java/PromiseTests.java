@@ -481,8 +481,20 @@ public final class PromiseTests {
         due("hidden", made(0, 45, 51, 3, 106, 47, 24, 3, 46).outcome(0, 0), 6);
         due("what was set ahead of a throw stays", made(0, 45, 49, 45, 40, 1, 103, 48, 100, 46, 2, 45, 46, 47, 1, 46)
                 .outcome(0, 0), 3);
+        due("caught 7 times, with 25 values that are given up each time", made(0, manyCaught()).outcome(0, 0), 5);
         due("caught within an expression that is given up",
                 made(0, 45, 49, 40, 1, 10, 105, 13, 101, 100, 2, 45, 46, 47, 10, 1, 2, 46).outcome(0, 0), 1);
+    }
+
+    private static int[] manyCaught() {
+        int[] words = new int[75];
+        System.arraycopy(new int[] {45, 40, 0, 107, 44, 0, 45, 40, 0, 11, 0, 101, 49, 40, 2}, 0, words, 0, 15);
+        for (int i = 15; i < 65; i += 2) {
+            words[i] = 10;
+            words[i + 1] = 105;
+        }
+        System.arraycopy(new int[] {13, 101, 100, 3, 45, 46, 46, 47, 105, 46}, 0, words, 65, 10);
+        return words;
     }
 
     private static void calls() {
@@ -907,6 +919,13 @@ public final class PromiseTests {
         fails("12", INDEX, () -> works.kills(12));
         works.setOperator('n', false);
         due("numbered anew", works.kills(2), 4);
+        change(works, 0, 43, 14, 1, 0, 47, 0, 47, 104);
+        due("behind a change", works.kills(0), 2);
+        due("behind a change, return of the first", works.kills(5), 1);
+        change(works, 0, 47, 105);
+        due("behind another one", works.kills(0), 7);
+        change(works, 0, 45, 44, 101, 45, 46, 47, 105, 46);
+        due("what is not come to", works.kills(works.mutants() - 1), 0);
     }
 
     private static void runs() {
@@ -993,6 +1012,13 @@ public final class PromiseTests {
         due("1 - 0 and 1 + 0", one.mutatedWord(6) + " " + one.isLike(6) + one.isLike(1) + one.isLike(2), "10 n--");
         due("both of x and 3", like(made(3, 47, 18, 0, 12, 101, 103), 'c', 104), '-');
         due("unused text of 24", like(made(3, 45, 40, 1, 11, 24, 1, 100, 46), 'a', 10), 'n');
+        due("words behind one that is left out", like(made(3, 45, 40, 1, 20, 100, 51, 0, 12, 0, 101, 46), 'u', 100), 'n');
+        due("(x + y) * 1 + 0", like(made(3, 47, 10, 12, 10, 1, 0, 101, 100), 'a', 11), 'n');
+        due("(x + y) * 1 - 0", like(made(3, 47, 11, 12, 11, 1, 0, 101, 100), 'a', 10), 'n');
+        due("2 less 2 is 0", like(made(3, 47, 11, 0, 11, 102, 102), 'a', 10), 'n');
+        due("x * (0 = 0)", like(made(3, 47, 12, 0, 16, 100, 100), 'r', 15), 'n');
+        due("x * not 0", like(made(3, 47, 12, 0, 21, 100), 'c', 101), '-');
+        due("negative of a sum", like(made(3, 47, 20, 10, 0, 1), 'u', 10), '-');
         due("calls are not made simpler", like(made(3, 45, 40, 1, 11, 30, 0, 1, 11, 2, 100, 100, 46), 'a', 10), 'n');
     }
 
@@ -1158,6 +1184,11 @@ public final class PromiseTests {
         change(works, 0, 47, 100);
         due("behind a change", works.covers(2), 7 + 2);
         due("of another one", works.covers(0), 2);
+        change(works, 0, 45, 48, 100, 47, 1, 46);
+        due("behind another change", works.covers(0), 3);
+        works.setLimit(10);
+        change(works, 0, 45, 44, 101, 45, 46, 47, 1, 46);
+        due("without end", works.covers(0), 4);
     }
 
     private static void ways() {
@@ -1178,6 +1209,10 @@ public final class PromiseTests {
         Mutagenry loop = made(1, 44, 0, 40, 0, 11, 0, 101);
         loop.addTest(0, given(2));
         due("both of one run", loop.ways(), 2);
+        change(loop, 0, 44, 0, 47, 100);
+        due("behind a change", loop.ways(), 1);
+        change(loop, 0, 45, 46);
+        due("behind another one", loop.ways(), 0);
     }
 
     private static void pairKills() {
