@@ -486,6 +486,22 @@ public final class PromiseTests {
                 made(0, 45, 49, 40, 1, 10, 105, 13, 101, 100, 2, 45, 46, 47, 10, 1, 2, 46).outcome(0, 0), 1);
     }
 
+    // Each call gives 42 more than the one in it; the twelfth one catches what a thirteenth one would throw.
+    private static int[] sums(boolean isFirst) {
+        int[] words = new int[90];
+        words[0] = 49;
+        words[1] = 47;
+        for (int i = 0; i < 42; i++) {
+            words[2 + (isFirst ? i : 2 * i)] = 10;
+            words[isFirst ? 45 + i : 3 + 2 * i] = 101;
+        }
+        words[isFirst ? 44 : 86] = 30;
+        words[87] = 1;
+        words[88] = 47;
+        words[89] = 100;
+        return words;
+    }
+
     private static int[] manyCaught() {
         int[] words = new int[75];
         System.arraycopy(new int[] {45, 40, 0, 107, 44, 0, 45, 40, 0, 11, 0, 101, 49, 40, 2}, 0, words, 0, 15);
@@ -517,6 +533,12 @@ public final class PromiseTests {
         due("13 calls", deeper.outcome(0, number(7, 5, 0)), 103);
         Mutagenry caught = made(0, 45, 51, 0, 10, 24, 0, 101, 49, 47, 30, 0, 47, 24, 0, 46);
         due("the 12th catches it", caught.outcome(0, 0), -4);
+        due("12 calls of 42 sums, the call first", made(0, sums(true)).outcome(0, 0), -2);
+        due("12 calls of 42 sums, the call last", made(0, sums(false)).outcome(0, 0), -2);
+        Mutagenry wide = made(0, sums(true));
+        wide.addTest(0, 0);
+        due("their mutants", wide.isSound(), true);
+        due("a mutant of the innermost sum", wide.told(44 * 3 - 9, 0), 'k');
         Mutagenry argument = made(1, 47, 100);
         add(argument, 0, 47, 30, 13, 101, 100);
         due("an argument throws", argument.outcome(1, 0), 101);
