@@ -224,6 +224,12 @@ public final class BoundaryTests {
             due("behind a call", made(1, 43, 0, 45, 41, 100 + cell, 105, 40, 1, 30, 100, 47, 22, 100 + cell, 46,
                     41, 100 + cell, 102).outcome(0, given(1)), 5);
         }
+        // each call keeps its parameter in a cell and a variable, and looks at both behind the call of 1 less
+        Mutagenry own = made(1, joined(words(45, 42, 21, 0, 47, 100, 41, 103, 0, 40, 7, 0, 40, 1, 30, 11, 0, 101),
+                words(42, 17, 22, 103, 0, 48, 101, 42, 17, 7, 0, 48, 102, 47, 10, 1, 101, 46)));
+        due("each of 8 calls has its own", own.outcome(0, given(7)), 7);
+        due("each of 12 calls has its own", own.outcome(0, given(-5)) + " " + own.steps(0, given(-5)), "-5 91");
+        due("a 13th has none", own.outcome(0, given(-4)), 103);
         says("All share the hidden ones 0 to 3");
         for (int hidden = 0; hidden < 4; hidden++) {
             Mutagenry works = made(0, 51, hidden, 105);
@@ -961,6 +967,15 @@ public final class BoundaryTests {
         due("what is found to be 0", likesOf("a", 3, 47, 10, 0, 11, 103, 103), "n-----");
         due("more words than one", likesOf("a", 3, 47, 10, 30, 0, 1, 2, 100), "n--");
         due("-(-(-x))", likesOf("u", 3, 47, 20, 20, 20, 0), "---");
+        due("x * y + 0", likesOf("a", 3, 47, 10, 12, 0, 1, 100), "n-----");
+        due("x * y - 0", likesOf("a", 3, 47, 11, 12, 0, 1, 100), "n-----");
+        due("0 + x * y", likesOf("a", 3, 47, 10, 100, 12, 0, 1), "------");
+        due("(x + y) * 1", likesOf("a", 3, 47, 12, 10, 0, 1, 101), "------");
+        due("1 * (x + y)", likesOf("a", 3, 47, 12, 101, 10, 0, 1), "------");
+        due("-(-(x + y))", likesOf("au", 3, 47, 20, 20, 10, 0, 1), "-----");
+        due("(x - 0) * 1 + 0", likesOf("a", 3, 47, 10, 12, 11, 0, 100, 101, 100), "n-----n--");
+        due("words that follow", likesOf("a", 3, 45, 40, 3, 10, 0, 100, 41, 0, 11, 1, 100, 47, 10, 2, 100, 46),
+                "n--n--n--");
         says("A mutant, but of 'n' or 's', is like the program by one form");
         due("of 3 parameters", likesOf("ns", 3, 45, 40, 0, 0, 42, 100, 45, 46, 46), "--");
         due("by all inputs", likesOf("ns", 1, 45, 40, 0, 0, 42, 100, 45, 46, 46), "bb");
@@ -1043,6 +1058,8 @@ public final class BoundaryTests {
         due("no tests", flags().minimals(), 0);
         due("the last ones", flags(2, 1).minimals() + " " + flags(2, 1).minimalAt(0) + " " + flags(2, 1).minimalAt(1),
                 "2 1 2");
+        due("subsumed by the first one alone", flags(6, 2).minimals() + " " + flags(6, 2).minimalAt(0), "1 0");
+        due("subsumed by the second one alone", flags(6, 4).minimals() + " " + flags(6, 4).minimalAt(0), "1 1");
         due("of all three", flags(4, 2, 1).minimals() + " " + flags(4, 2, 1).minimalAt(2), "3 2");
         scores();
         orders();
@@ -1092,7 +1109,7 @@ public final class BoundaryTests {
         due("one of three", flags(4, 2, 7).leastSet(true) + " " + flags(4, 2, 7).leastSet(false), "4 4");
         due("two, not the one of most", flags(6, 4, 3).leastSet(true), 5);
         due("what none has is not asked for", flags(4, 4, 2).leastSet(true), 5);
-        due("all", flags(4, 2, 1).leastSet(true) + " " + flags(4, 2, 1).leastSet(false), "7 7");
+        due("all of three", flags(4, 2, 1).leastSet(true) + " " + flags(4, 2, 1).leastSet(false), "7 7");
         says("of several the one with the least number, as a sum of 2 to the power of each");
         due("1 and 2, not 0 and 5", flags(4, 6, 1, 0, 0, 3).leastSet(true), 6);
         due("of places", flags(4, 6, 1, 0, 0, 3).leastSet(false), 6);
@@ -1214,6 +1231,9 @@ public final class BoundaryTests {
         due("4 / -1", loop.far(0, given(1), 6, false) + " " + loop.far(0, given(1), 6, true), "4 0");
         due("the least one of 2 and 4", loop.far(0, given(4), 6, false), 2);
         due("never", loop.far(0, given(0), 6, false) + " " + loop.far(0, given(0), 6, true), "99 99");
+        Mutagenry counter = made(0, 45, 51, 0, 10, 24, 0, 101, 47, 24, 0, 46);
+        due("hidden ones begin with 0", counter.far(0, 0, 6, false) + " " + counter.far(0, 0, 6, false), "1 1");
+        due("for climbing, too", counter.climb(0, 6, true) + " " + counter.climb(0, 3, false), ZEROS + " " + ZEROS);
         Mutagenry thrown = made(1, 47, 13, 104, 0);
         due("it throws", thrown.far(0, given(0), 1, true) + " " + thrown.far(0, given(0), 1, false), "99 99");
         Mutagenry endless = made(1, 44, 10, 0, 101, 40, 0, 10, 0, 101);
