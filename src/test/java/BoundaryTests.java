@@ -261,6 +261,32 @@ public final class BoundaryTests {
         due("wrong as that of 0 parameters", wrong(0, 47, 30, 100), 2);
         due("right as that of 1", wrong(1, 47, 30, 100), -1);
         due("lacking as that of 2", wrong(2, 47, 30, 100), 3);
+        emptiedRows();
+    }
+
+    private static void emptiedRows() {
+        says("erase: Takes all words out of the row; Returns how many there were");
+        Mutagenry works = new Mutagenry();
+        due("none", works.erase(), 0);
+        type(works, joined(words(47), times(44, 10), times(45, 101)));
+        due("90", works.erase(), 90);
+        due("none again", works.erase() + " " + works.wrongAt(0), "0 0");
+        says("define: by the row, which is empty then; it may call itself");
+        type(works, 43, 0, 47, 30, 11, 0, 101, 47, 105);
+        due("the number", works.define(1), 0);
+        due("empty then", works.erase() + " " + works.wrongAt(1), "0 0");
+        due("it calls itself", works.outcome(0, given(7)) + " " + works.steps(0, given(7)), "5 16");
+        type(works, 43, 0, 47, 31, 11, 0, 101, 47, 30, 0);
+        due("the next number", works.define(1), 1);
+        due("it calls itself and the first one", works.outcome(1, given(7)), 5);
+        says("change: by the row, which is empty then, with as many parameters");
+        type(works, 43, 0, 47, 30, 11, 0, 101, 47, 106);
+        due("one change", works.change(0), 1);
+        due("empty then, too", works.erase() + " " + works.wrongAt(1), "0 0");
+        due("both functions", works.outcome(0, given(7)) + " " + works.outcome(1, given(7)), "6 6");
+        type(works, 47, 31, 1);
+        due("one parameter, and one that calls back", works.change(0) + " " + works.outcome(0, given(7)), "2 103");
+        due("functions", works.functions(), 2);
     }
 
     private static void statements() {
