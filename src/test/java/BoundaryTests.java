@@ -1102,6 +1102,9 @@ public final class BoundaryTests {
         Mutagenry like = only("a", made(1, 47, 10, 0, 100));
         like.addTest(0, given(7));
         due("two of two, one being like", like.score(1, false), 1f);
+        Mutagenry byAll = only("a", made(1, 47, 12, 0, 101));
+        byAll.addTest(0, given(7));
+        due("two of three, one being like by all inputs", byAll.score(1, false), (float) (2.0 / 3.0));
         says("of the least kills that some tests have, among all: a set of tests has them if it has one of them");
         for (int tests = 0; tests < 8; tests++) {
             due("least kills of " + tests, works.score(tests, true), least[tests]);
@@ -1176,6 +1179,10 @@ public final class BoundaryTests {
         due("kills", works.kills(0) + " " + works.kills(3) + " " + works.pairKills(0, 3), "1 0 2");
         due("masked", works.masked(0, 3) + " " + works.masked(3, 0), "1 1");
         due("not harder", works.isHarder(0, 3), false);
+        Mutagenry each = only("cn", made(1, 45, 40, 1, 100, 44, 1, 45, 46, 47, 103, 46));
+        each.addTest(0, given(0));
+        due("each kills alone, the pair does not", each.kills(0) + " " + each.kills(2) + " " + each.pairKills(0, 2) + " "
+                + each.masked(0, 2), "1 1 0 1");
         Mutagenry three = flags(4, 2, 6);
         due("none is masked", three.masked(0, 1) + " " + three.pairKills(0, 1), "0 7");
         due("no test", flags().masked(0, 1) + " " + flags().pairKills(0, 1), "0 0");
