@@ -230,6 +230,11 @@ public final class BoundaryTests {
         due("each of 8 calls has its own", own.outcome(0, given(7)), 7);
         due("each of 12 calls has its own", own.outcome(0, given(-5)) + " " + own.steps(0, given(-5)), "-5 91");
         due("a 13th has none", own.outcome(0, given(-4)), 103);
+        for (int i = 0; i < 4; i++) {
+            Mutagenry next = made(1, 43, 0, 45, 41, 100 + i, 105, 40, 1 + i, 105, 46, 47, 10, 22, 100 + i, 1 + i);
+            add(next, 0, 47, 10, 30, 101, 10, 30, 100, 10, 30, 101, 30, 100);
+            due("cell " + i + " of a call behind another one", next.outcome(1, 0), 0);
+        }
         says("All share the hidden ones 0 to 3");
         for (int hidden = 0; hidden < 4; hidden++) {
             Mutagenry works = made(0, 51, hidden, 105);
@@ -577,6 +582,7 @@ public final class BoundaryTests {
         due("no variable that is read", only("v", made(3, 40, 7, 100)).mutants(), 0);
         due("read", listed(only("v", made(0, 47, 10, 7, 5))), "2v5 3v7");
         due("set by 40 alone", listed(only("v", made(0, 45, 40, 6, 100, 47, 4, 46))), "4v6");
+        due("set by 40 and 49", listed(only("v", made(0, 45, 49, 40, 3, 101, 1, 45, 46, 47, 4, 46))), "6v1 6v3");
         due("set by 49 alone", listed(only("v", made(0, 45, 49, 45, 46, 1, 45, 46, 47, 4, 46))), "5v1");
         due("a parameter", listed(only("v", made(3, 47, 7))), "1v0 1v1 1v2");
         due("each of the eight", listed(only("v", made(3, 45, 40, 3, 100, 40, 7, 4, 49, 48, 5, 6, 47, 1, 46))),
@@ -758,6 +764,13 @@ public final class BoundaryTests {
         due("201 of 201", works.expected(0), 0);
         works.setLimit(200);
         due("201 of 200 again", works.expected(0) + " " + works.steps(0, 0), "999 201");
+        Mutagenry told = only("s", made(0, joined(words(45), times(10, 40, 1, 100), words(46))));
+        told.addTest(0, 0);
+        due("kills of 11 steps by 200", told.kills(9) + " " + told.meanKills() + " " + told.expected(0), "0 0.0 0");
+        told.setLimit(10);
+        due("kills of 10 steps by 10", told.kills(9) + " " + told.meanKills() + " " + told.expected(0), "1 1.0 999");
+        told.setLimit(11);
+        due("kills of 10 steps by 11", told.kills(9) + " " + told.meanKills() + " " + told.expected(0), "0 0.0 0");
     }
 
     private static void mutantLimits() {
@@ -862,6 +875,8 @@ public final class BoundaryTests {
             only("a", counted).setFunction(0, false);
             counted.addTest(1, 0);
             due("hidden " + hidden, told(counted, 0), "rkk");
+            change(counted, 1, 45, 51, hidden, 103, 47, 10, 30, 100, 46);
+            due("hidden " + hidden + ", 3 before", counted.expected(0) + told(counted, 0), "4rkk");
         }
     }
 
@@ -883,6 +898,16 @@ public final class BoundaryTests {
         due("whatever the limit", told(works, 0), "iikrrk");
         works.setLimit(102);
         due("just the limit", told(works, 0), "iikrrk");
+        // two rounds; the sum is found at the step 10, being 0, and at the step 19, being 1; each call takes 4 steps
+        Mutagenry rounds = made(0, 45, 45, 46, 45, 46, 47, 100, 46);
+        add(rounds, 0, 45, 40, 0, 102, 44, 0, 45, 40, 2, 10, 30, 1, 40, 1, 101, 40, 0, 11, 0, 101, 46, 46);
+        only("a", rounds).setFunction(0, false);
+        rounds.addTest(1, 0);
+        due("22 steps", rounds.steps(1, 0) + told(rounds, 0), "22iikkkk");
+        rounds.setLimit(19);
+        due("steps that are taken aside are none of the 19", rounds.expected(0) + told(rounds, 0), "999iikiii");
+        rounds.setLimit(18);
+        due("18 are not enough for the second round", rounds.expected(0) + told(rounds, 0), "999rrkiii");
         says("a mutant that passes its limit there gives nothing");
         Mutagenry endless = made(0, 44, 101, 45, 46);
         add(endless, 0, 47, 10, 30, 100);
@@ -1006,6 +1031,15 @@ public final class BoundaryTests {
         due("of 3 parameters", likesOf("ns", 3, 45, 40, 0, 0, 42, 100, 45, 46, 46), "--");
         due("by all inputs", likesOf("ns", 1, 45, 40, 0, 0, 42, 100, 45, 46, 46), "bb");
         byAllInputs();
+        says("(likes) those of the operators that are told, and of the functions that are told");
+        Mutagenry works = only("s", made(1, 45, 40, 5, 0, 47, 12, 0, 101, 46));
+        due("of s", likesOf(works), "b-");
+        due("of a", likesOf(only("a", works)), "--b");
+        due("of s again", likesOf(only("s", works)), "b-");
+        add(works, 1, 47, 0);
+        due("of two functions", likesOf(works), "b--");
+        works.setFunction(0, false);
+        due("of the second one", likesOf(works), "-");
     }
 
     private static void byAllInputs() {
@@ -1171,6 +1205,11 @@ public final class BoundaryTests {
         due("9 steps and 52 steps, of 52", limit.alone(0, 0) + " " + limit.alone(1, 0), "5 5");
         due("53 steps of 52", limit.pairKills(0, 1), 1);
         due("is no harder one", limit.isHarder(0, 1) + " " + limit.masked(0, 1), "false 0");
+        Mutagenry hidden = only("c", made(0, 45, 51, 0, 10, 24, 0, 101, 40, 1, 100, 47, 10, 24, 0, 1, 46));
+        hidden.addTest(0, 0);
+        hidden.addTest(0, 0);
+        due("hidden ones begin with 0", listed(hidden) + " " + hidden.pairKills(0, 3) + hidden.masked(0, 3),
+                "4c102 4c100 6c101 6c99 03");
         says("A pair is masked on a test that kills one of both, but not the pair");
         Mutagenry works = only("nc", made(1, 45, 40, 1, 103, 42, 0, 40, 1, 103, 47, 1, 46));
         works.addTest(0, given(0));
@@ -1489,6 +1528,7 @@ public final class BoundaryTests {
         peer.setFunction(0, false);
         peer.addOracle('d', 0, 1);
         peer.addTest(0, given(3));
+        due("of the program, behind a mutant's run", peer.alone(0, 0) + " " + peer.holds(0), "3 1");
         due("a mutant of the peer", peer.oracleKills(0, 0) + " " + peer.kills(0), "1 0");
     }
 
@@ -1534,7 +1574,34 @@ public final class BoundaryTests {
 
     // ------------------------------------------------------------------ counts
 
+    private static String programCall(Mutagenry works, int call) {
+        switch (call) {
+            case 0: return "" + works.outcome(0, given(3));
+            case 1: return "" + works.steps(0, given(3));
+            case 2: return "" + works.expected(0);
+            case 3: return "" + works.far(0, given(3), 4, false);
+            case 4: return "" + (works.climb(0, 4, true) - ZEROS);
+            case 5: return "" + works.after(0, 0);
+            case 6: return "" + works.holds(0);
+            case 7: return "" + works.holds(1);
+            case 8: return "" + works.covers(0) + works.ways();
+            case 9: return "" + works.leans(0);
+            default: return "" + works.killing(0, 0) / 256;
+        }
+    }
+
     private static void counts() {
+        says("Returns the outcome of a function: of the program, whatever runs were ahead");
+        Mutagenry mixed = only("s", made(1, 45, 51, 0, 0, 47, 10, 24, 0, 101, 46));
+        mixed.addTest(0, given(3));
+        mixed.addOracle('p', 0, 0);
+        mixed.addOracle('d', 0, 0);
+        String[] due = {"4", "3", "4", "4", "0", "4", "1", "1", "70", "false", "0"};
+        for (int call = 0; call < due.length; call++) {
+            mixed.setLimit(call + 10);
+            due("the mutants", mixed.alone(0, 0) + " " + mixed.alone(1, 0) + " " + mixed.pairKills(0, 1), "1 0 1");
+            due("call " + call, programCall(mixed, call), due[call]);
+        }
         says("functions, tests, changes: 0 at first");
         Mutagenry works = new Mutagenry();
         due("at first", works.functions() + " " + works.tests() + " " + works.changes() + " " + works.mutants() + " "
